@@ -328,9 +328,12 @@ public final class SetFamilies {
     return ((set >> element) & 1) == 1;
   }
 
-  /** How many sets from this one on, by their codes, are it with nothing or with lesser elements added. */
-  private static int branchLength(int set, int all) {
-    return set == 0 ? all + 1 : set & -set;
+  /**
+   * The first code behind a branch: a set and all that comes from it by adding lesser elements.
+   * Those are its next codes, so a search by ascending codes can leave a branch out.
+   */
+  private static int branchEnd(int set, int all) {
+    return set == 0 ? all + 1 : set + (set & -set);
   }
 
   private static int sizeOrNone(int set) {
@@ -1033,27 +1036,33 @@ public final class SetFamilies {
 
     /** The first of the largest sets that a family shatters; NONE for the empty family. */
     int firstLargest(Family family) {
+      if (family.count() == 0) {
+        return NONE;
+      }
       int all = ground.everything();
-      int best = NONE;
-      int bestSize = NONE;
-      int step = 1;
-      for (int dropped = 0; dropped <= all; dropped += step) {
+      int best = 0;
+      int bestSize = 0;
+      int next = 0;
+      for (int dropped = 0; dropped <= all; dropped++) {
+        if (dropped < next) {
+          continue;
+        }
         int kept = all ^ dropped;
         int size = Integer.bitCount(kept);
-        Family trace = layTrace(family, dropped);
         // What is kept falls, so a later set of the same size is an earlier one by its code.
-        if (size >= bestSize && trace.count() == 1 << size) {
+        if (layTrace(family, dropped).count() == 1 << size && size >= bestSize) {
           best = kept;
           bestSize = size;
         }
-        step = size > bestSize ? 1 : branchLength(dropped, all);
+        // The rest of the branch keeps fewer elements.
+        next = size > bestSize ? dropped + 1 : branchEnd(dropped, all);
       }
       return best;
     }
 
     /**
-     * Counting upwards comes from a number without its lowest bit to all numbers that
-     * have further bits below that one, so the trace one index lower is always the right one.
+     * By ascending codes, nothing with as few elements comes between a set without its least
+     * element and the set itself, so the trace one index lower is still the one to go on from.
      */
     private Family layTrace(Family family, int dropped) {
       int depth = Math.min(Integer.bitCount(dropped), MOST_ELEMENTS);
@@ -1092,20 +1101,23 @@ public final class SetFamilies {
 
     int leastCore(Family family) {
       int all = ground.everything();
-      int step = 1;
-      for (int core = 0; core <= all; core += step) {
+      int next = 0;
+      for (int core = 0; core <= all; core++) {
+        if (core < next) {
+          continue;
+        }
         Family link = layLink(family, core);
         boolean enough = link.count() >= PETALS;
         if (enough && hasDisjointSets(link)) {
           return core;
         }
-        // Greater cores have fewer sets above them.
-        step = enough ? 1 : branchLength(core, all);
+        // The rest of the branch has no other sets above it.
+        next = enough ? core + 1 : branchEnd(core, all);
       }
       return NONE;
     }
 
-    /** The cores come in the order that is told at layTrace. */
+    /** The link one index lower is the right one, as at layTrace. */
     private Family layLink(Family family, int core) {
       int depth = Math.min(Integer.bitCount(core), MOST_ELEMENTS);
       Family link = links[depth];

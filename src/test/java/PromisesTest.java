@@ -257,6 +257,14 @@ public final class PromisesTest {
     Check.due("at the place of the first", 1, x.combine(0, SetFamilies.DIFFERENCE, 0, 1));
     holds("at the place of the first", x, 0, "1");
     Check.due("with itself", 0, x.combine(0, SetFamilies.SYMMETRIC, 0, 0));
+    SetFamilies y = with(10, "9,0123456789,-");
+    read(y, 1, "9,89,0");
+    int[] sizes = {5, 1, 2, 4};
+    String[] want = {"0 1 512 768 1023", "512", "0 1023", "0 1 768 1023"};
+    for (int operation = SetFamilies.UNION; operation <= SetFamilies.SYMMETRIC; operation++) {
+      Check.due("operation " + operation + " with ten elements", sizes[operation], y.combine(2, operation, 0, 1));
+      holds("operation " + operation + " with ten elements", y, 2, want[operation]);
+    }
     for (int f : NO_FAMILIES) {
       Check.throwsA(INDEX, "place " + f, () -> x.combine(f, 0, 0, 0));
       Check.throwsA(INDEX, "first " + f, () -> x.combine(0, 0, f, 0));
@@ -301,6 +309,14 @@ public final class PromisesTest {
     holds("maximal", x, 1, "13");
     Check.due("complements", 3, x.derive(1, SetFamilies.COMPLEMENTS, 0));
     holds("complements", x, 1, "2 7 10");
+    read(x, 0, "0,012,3,0123");
+    x.derive(1, SetFamilies.MINIMAL, 0);
+    holds("minimal sets of a chain with a gap", x, 1, "1 8");
+    x.derive(1, SetFamilies.DOWN_SET, 1);
+    holds("down set of another one", x, 1, "0 1 8");
+    read(x, 0, "-,0,012,3");
+    x.derive(1, SetFamilies.MAXIMAL, 0);
+    holds("maximal sets of a chain with a gap", x, 1, "7 8");
     SetFamilies y = with(8, "07,17,6");
     Check.due("unions", 7, y.derive(1, SetFamilies.UNIONS, 0));
     holds("unions", y, 1, "64 129 130 131 193 194 195");
@@ -549,6 +565,8 @@ public final class PromisesTest {
     is(0, "01,2,67", true);
     is(0, "01,1", false);
     is(0, "7,67", false);
+    is(0, "0,012", false);
+    is(0, "-,67", false);
     is(0, "-", true);
     is(0, "-,0", false);
     is(1, "01,12,02", true);
@@ -691,6 +709,8 @@ public final class PromisesTest {
     sunflowerIs("0789,1789,789", 896);
     sunflowerIs("0123456789,012345678,01234567", SetFamilies.NONE);
     sunflowerIs("012345678,012345679,01234567", 255);
+    sunflowerIs("23456789,123456789,0123456789", SetFamilies.NONE);
+    sunflowerIs("23456789,123456789,023456789", 1020);
     SetFamilies x = new SetFamilies();
     for (int f : NO_FAMILIES) {
       Check.throwsA(INDEX, "sunflower(" + f + ")", () -> x.sunflower(f));
