@@ -309,11 +309,11 @@ public final class PromisesTest {
     holds("maximal", x, 1, "13");
     Check.due("complements", 3, x.derive(1, SetFamilies.COMPLEMENTS, 0));
     holds("complements", x, 1, "2 7 10");
+    Check.due("down set after the complements", 8, x.derive(2, SetFamilies.DOWN_SET, 0));
+    holds("down set after the complements", x, 2, "0 1 4 5 8 9 12 13");
     read(x, 0, "0,012,3,0123");
     x.derive(1, SetFamilies.MINIMAL, 0);
     holds("minimal sets of a chain with a gap", x, 1, "1 8");
-    x.derive(1, SetFamilies.DOWN_SET, 1);
-    holds("down set of another one", x, 1, "0 1 8");
     read(x, 0, "-,0,012,3");
     x.derive(1, SetFamilies.MAXIMAL, 0);
     holds("maximal sets of a chain with a gap", x, 1, "7 8");
