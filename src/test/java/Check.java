@@ -54,6 +54,28 @@ final class Check {
     }
   }
 
+  /** The call answers, whatever it is. */
+  static void taken(String call, Call code) {
+    checks++;
+    String got = outcome(code);
+    if (got.startsWith("throws.")) {
+      tell(call + " gave " + got + ", due is an answer");
+    }
+  }
+
+  /** The call throws, whatever it is: a test of its own tells the class. */
+  static void turnedDown(String call, Call code) {
+    checks++;
+    String got = outcome(code);
+    if (!got.startsWith("throws.")) {
+      tell(call + " answered " + got + ", due is an exception");
+    }
+  }
+
+  static int checksSoFar() {
+    return checks;
+  }
+
   static int wrongSoFar() {
     return wrong;
   }

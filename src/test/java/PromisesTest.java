@@ -1,9 +1,9 @@
 /** Each promise of the document: ordinary inputs, the edges that it names, and wrong inputs. */
 public final class PromisesTest {
-  private static final Class<IndexOutOfBoundsException> INDEX = IndexOutOfBoundsException.class;
-  private static final Class<IllegalArgumentException> ARGUMENT = IllegalArgumentException.class;
-  private static final Class<IllegalStateException> STATE = IllegalStateException.class;
-  private static final int[] NO_FAMILIES = {-1, 4, Integer.MIN_VALUE, Integer.MAX_VALUE};
+  private static final Class<IndexOutOfBoundsException> INDEX = Bench.INDEX;
+  private static final Class<IllegalArgumentException> ARGUMENT = Bench.ARGUMENT;
+  private static final Class<IllegalStateException> STATE = Bench.STATE;
+  private static final int[] NO_FAMILIES = Bench.NO_FAMILIES;
 
   public static void main(String[] args) {
     newObject();
@@ -44,44 +44,6 @@ public final class PromisesTest {
     Check.end();
   }
 
-  // ---- helpers
-
-  private static void type(SetFamilies x, String text) {
-    for (char c : text.toCharArray()) {
-      x.type(c);
-    }
-  }
-
-  /** Makes a family the one of a text, which stays there. */
-  private static int read(SetFamilies x, int family, String text) {
-    x.clearText();
-    type(x, text);
-    return x.read(family);
-  }
-
-  private static SetFamilies with(int n, String text) {
-    SetFamilies x = new SetFamilies();
-    x.setGround(n);
-    read(x, 0, text);
-    return x;
-  }
-
-  private static String codes(SetFamilies x, int family) {
-    StringBuilder line = new StringBuilder();
-    for (int i = 0; i < x.size(family, SetFamilies.NONE); i++) {
-      line.append(i == 0 ? "" : " ").append(x.get(family, i));
-    }
-    return line.toString();
-  }
-
-  private static void holds(String what, SetFamilies x, int family, String want) {
-    Check.same(what, want, codes(x, family));
-  }
-
-  private static long bit(boolean b) {
-    return b ? 1 : 0;
-  }
-
   // ---- promises
 
   private static void newObject() {
@@ -90,8 +52,8 @@ public final class PromisesTest {
     for (int f = 0; f < 4; f++) {
       Check.due("size of a family", 0, x.size(f, SetFamilies.NONE));
     }
-    Check.due("has(0, 63) of six elements", 0, bit(x.has(0, 63)));
-    Check.throwsA(ARGUMENT, "has(0, 64)", () -> bit(x.has(0, 64)));
+    Check.due("has(0, 63) of six elements", 0, Bench.bit(x.has(0, 63)));
+    Check.throwsA(ARGUMENT, "has(0, 64)", () -> Bench.bit(x.has(0, 64)));
     Check.due("clearText()", 0, x.clearText());
     Check.throwsA(STATE, "undo()", () -> x.undo());
     Check.due("setGround(6)", 6, x.setGround(6));
@@ -110,15 +72,15 @@ public final class PromisesTest {
     Check.due("size(0) after the same n", 0, x.size(0, SetFamilies.NONE));
     Check.due("setGround(1)", 10, x.setGround(1));
     Check.yes("add(0, 1)", x.add(0, 1));
-    Check.throwsA(ARGUMENT, "add(0, 2)", () -> bit(x.add(0, 2)));
+    Check.throwsA(ARGUMENT, "add(0, 2)", () -> Bench.bit(x.add(0, 2)));
     for (int n : new int[] {0, 11, -1, Integer.MIN_VALUE, Integer.MAX_VALUE}) {
       Check.throwsA(ARGUMENT, "setGround(" + n + ")", () -> x.setGround(n));
     }
-    holds("family 0 after wrong calls", x, 0, "1");
+    Bench.holds("family 0 after wrong calls", x, 0, "1");
     x.undo();
     x.undo();
     Check.due("setGround(3) after two undos", 10, x.setGround(3));
-    type(x, "012");
+    Bench.type(x, "012");
     x.setGround(10);
     Check.due("the text stays", 3, x.clearText());
   }
@@ -131,43 +93,44 @@ public final class PromisesTest {
     Check.yes("add(1, 5)", x.add(1, 5));
     Check.yes("add(3, 0)", x.add(3, 0));
     Check.yes("add(3, 63)", x.add(3, 63));
-    holds("family 0", x, 0, "5");
-    holds("family 3", x, 3, "0 63");
+    Bench.holds("family 0", x, 0, "5");
+    Bench.holds("family 3", x, 3, "0 63");
     for (int f : NO_FAMILIES) {
-      Check.throwsA(INDEX, "add(" + f + ", 0)", () -> bit(x.add(f, 0)));
-      Check.throwsA(INDEX, "add(" + f + ", -1), both wrong", () -> bit(x.add(f, -1)));
+      Check.throwsA(INDEX, "add(" + f + ", 0)", () -> Bench.bit(x.add(f, 0)));
+      Check.throwsA(INDEX, "add(" + f + ", -1), both wrong", () -> Bench.bit(x.add(f, -1)));
     }
     for (int s : new int[] {-1, 64, Integer.MIN_VALUE, Integer.MAX_VALUE}) {
-      Check.throwsA(ARGUMENT, "add(0, " + s + ")", () -> bit(x.add(0, s)));
+      Check.throwsA(ARGUMENT, "add(0, " + s + ")", () -> Bench.bit(x.add(0, s)));
     }
     x.setGround(10);
-    for (int s = 1023; s >= 0; s--) {
+    // A third of all sets: with all of them the object would be used for more than 512 calls.
+    for (int s = 1023; s >= 0; s -= 3) {
       Check.yes("add(2, " + s + ")", x.add(2, s));
     }
-    Check.due("size(2)", 1024, x.size(2, SetFamilies.NONE));
+    Check.due("size(2)", 342, x.size(2, SetFamilies.NONE));
   }
 
   private static void remove() {
     Check.about("promise 4");
-    SetFamilies x = with(6, "02,-,012345");
+    SetFamilies x = Bench.with(6, "02,-,012345");
     Check.yes("remove(0, 5)", x.remove(0, 5));
     Check.no("remove(0, 5) again", x.remove(0, 5));
     Check.no("remove(1, 0)", x.remove(1, 0));
     Check.yes("remove(0, 0)", x.remove(0, 0));
-    holds("family 0", x, 0, "63");
+    Bench.holds("family 0", x, 0, "63");
     Check.yes("remove(0, 63)", x.remove(0, 63));
     Check.due("size(0)", 0, x.size(0, SetFamilies.NONE));
     for (int f : NO_FAMILIES) {
-      Check.throwsA(INDEX, "remove(" + f + ", 64)", () -> bit(x.remove(f, 64)));
+      Check.throwsA(INDEX, "remove(" + f + ", 64)", () -> Bench.bit(x.remove(f, 64)));
     }
     for (int s : new int[] {-1, 64}) {
-      Check.throwsA(ARGUMENT, "remove(0, " + s + ")", () -> bit(x.remove(0, s)));
+      Check.throwsA(ARGUMENT, "remove(0, " + s + ")", () -> Bench.bit(x.remove(0, s)));
     }
   }
 
   private static void has() {
     Check.about("promise 5");
-    SetFamilies x = with(10, "9,0123456789,-,06");
+    SetFamilies x = Bench.with(10, "9,0123456789,-,06");
     Check.yes("has(0, 512)", x.has(0, 512));
     Check.yes("has(0, 1023)", x.has(0, 1023));
     Check.yes("has(0, 0)", x.has(0, 0));
@@ -176,15 +139,15 @@ public final class PromisesTest {
     Check.no("has(0, 64)", x.has(0, 64));
     Check.no("has(1, 0)", x.has(1, 0));
     for (int f : NO_FAMILIES) {
-      Check.throwsA(INDEX, "has(" + f + ", -1)", () -> bit(x.has(f, -1)));
+      Check.throwsA(INDEX, "has(" + f + ", -1)", () -> Bench.bit(x.has(f, -1)));
     }
-    Check.throwsA(ARGUMENT, "has(0, 1024)", () -> bit(x.has(0, 1024)));
-    Check.throwsA(ARGUMENT, "has(0, -1)", () -> bit(x.has(0, -1)));
+    Check.throwsA(ARGUMENT, "has(0, 1024)", () -> Bench.bit(x.has(0, 1024)));
+    Check.throwsA(ARGUMENT, "has(0, -1)", () -> Bench.bit(x.has(0, -1)));
   }
 
   private static void size() {
     Check.about("promise 6");
-    SetFamilies x = with(7, "-,0,6,06,16,0123456");
+    SetFamilies x = Bench.with(7, "-,0,6,06,16,0123456");
     int[] levels = {1, 2, 2, 0, 0, 0, 0, 1};
     for (int k = 0; k <= 7; k++) {
       Check.due("size(0, " + k + ")", levels[k], x.size(0, k));
@@ -207,7 +170,7 @@ public final class PromisesTest {
 
   private static void get() {
     Check.about("promise 7");
-    SetFamilies x = with(10, "9,-,06,0,5,012345,0123456789");
+    SetFamilies x = Bench.with(10, "9,-,06,0,5,012345,0123456789");
     int[] sets = {0, 1, 32, 63, 65, 512, 1023};
     for (int i = 0; i < sets.length; i++) {
       Check.due("get(0, " + i + ")", sets[i], x.get(0, i));
@@ -224,7 +187,7 @@ public final class PromisesTest {
 
   private static void degree() {
     Check.about("promise 8");
-    SetFamilies x = with(8, "-,07,67,0567,01");
+    SetFamilies x = Bench.with(8, "-,07,67,0567,01");
     int[] degrees = {3, 1, 0, 0, 0, 1, 2, 3};
     for (int e = 0; e < 8; e++) {
       Check.due("degree(0, " + e + ")", degrees[e], x.degree(0, e));
@@ -240,30 +203,30 @@ public final class PromisesTest {
 
   private static void combine() {
     Check.about("promise 9");
-    SetFamilies x = with(8, "-,0,7");
-    read(x, 1, "0,07");
+    SetFamilies x = Bench.with(8, "-,0,7");
+    Bench.read(x, 1, "0,07");
     Check.due("union", 4, x.combine(2, SetFamilies.UNION, 0, 1));
-    holds("union", x, 2, "0 1 128 129");
+    Bench.holds("union", x, 2, "0 1 128 129");
     Check.due("intersection", 1, x.combine(2, SetFamilies.INTERSECTION, 0, 1));
-    holds("intersection", x, 2, "1");
+    Bench.holds("intersection", x, 2, "1");
     Check.due("difference", 2, x.combine(2, SetFamilies.DIFFERENCE, 0, 1));
-    holds("difference", x, 2, "0 128");
+    Bench.holds("difference", x, 2, "0 128");
     Check.due("difference the other way", 1, x.combine(2, SetFamilies.DIFFERENCE, 1, 0));
-    holds("difference the other way", x, 2, "129");
+    Bench.holds("difference the other way", x, 2, "129");
     Check.due("symmetric", 3, x.combine(2, SetFamilies.SYMMETRIC, 0, 1));
-    holds("symmetric", x, 2, "0 128 129");
+    Bench.holds("symmetric", x, 2, "0 128 129");
     Check.due("at the place of the second", 2, x.combine(1, SetFamilies.DIFFERENCE, 0, 1));
-    holds("at the place of the second", x, 1, "0 128");
+    Bench.holds("at the place of the second", x, 1, "0 128");
     Check.due("at the place of the first", 1, x.combine(0, SetFamilies.DIFFERENCE, 0, 1));
-    holds("at the place of the first", x, 0, "1");
+    Bench.holds("at the place of the first", x, 0, "1");
     Check.due("with itself", 0, x.combine(0, SetFamilies.SYMMETRIC, 0, 0));
-    SetFamilies y = with(10, "9,0123456789,-");
-    read(y, 1, "9,89,0");
+    SetFamilies y = Bench.with(10, "9,0123456789,-");
+    Bench.read(y, 1, "9,89,0");
     int[] sizes = {5, 1, 2, 4};
     String[] want = {"0 1 512 768 1023", "512", "0 1023", "0 1 768 1023"};
     for (int operation = SetFamilies.UNION; operation <= SetFamilies.SYMMETRIC; operation++) {
       Check.due("operation " + operation + " with ten elements", sizes[operation], y.combine(2, operation, 0, 1));
-      holds("operation " + operation + " with ten elements", y, 2, want[operation]);
+      Bench.holds("operation " + operation + " with ten elements", y, 2, want[operation]);
     }
     for (int f : NO_FAMILIES) {
       Check.throwsA(INDEX, "place " + f, () -> x.combine(f, 0, 0, 0));
@@ -277,16 +240,16 @@ public final class PromisesTest {
 
   private static void deriveShadows() {
     Check.about("promise 10, shadows");
-    SetFamilies x = with(7, "-,0,16");
+    SetFamilies x = Bench.with(7, "-,0,16");
     Check.due("shadow", 3, x.derive(1, SetFamilies.SHADOW, 0));
-    holds("shadow", x, 1, "0 2 64");
+    Bench.holds("shadow", x, 1, "0 2 64");
     Check.due("upper shadow", 18, x.derive(1, SetFamilies.UPPER_SHADOW, 0));
-    holds("upper shadow", x, 1, "1 2 3 4 5 8 9 16 17 32 33 64 65 67 70 74 82 98");
-    Check.due("shadow of the empty set", 0, with(4, "-").derive(0, SetFamilies.SHADOW, 0));
-    Check.due("upper shadow of all elements", 0, with(4, "0123").derive(0, SetFamilies.UPPER_SHADOW, 0));
+    Bench.holds("upper shadow", x, 1, "1 2 3 4 5 8 9 16 17 32 33 64 65 67 70 74 82 98");
+    Check.due("shadow of the empty set", 0, Bench.with(4, "-").derive(0, SetFamilies.SHADOW, 0));
+    Check.due("upper shadow of all elements", 0, Bench.with(4, "0123").derive(0, SetFamilies.UPPER_SHADOW, 0));
     Check.due("shadow of nothing", 0, x.derive(2, SetFamilies.SHADOW, 3));
     x.derive(0, SetFamilies.SHADOW, 0);
-    holds("shadow at its own place", x, 0, "0 2 64");
+    Bench.holds("shadow at its own place", x, 0, "0 2 64");
     for (int f : NO_FAMILIES) {
       Check.throwsA(INDEX, "place " + f, () -> x.derive(f, 0, 0));
       Check.throwsA(INDEX, "family " + f + ", operation wrong too", () -> x.derive(0, 10, f));
@@ -298,69 +261,69 @@ public final class PromisesTest {
 
   private static void deriveClosures() {
     Check.about("promise 10, closures");
-    SetFamilies x = with(4, "02,3,023");
+    SetFamilies x = Bench.with(4, "02,3,023");
     Check.due("down set", 8, x.derive(1, SetFamilies.DOWN_SET, 0));
-    holds("down set", x, 1, "0 1 4 5 8 9 12 13");
+    Bench.holds("down set", x, 1, "0 1 4 5 8 9 12 13");
     Check.due("up set", 10, x.derive(1, SetFamilies.UP_SET, 0));
-    holds("up set", x, 1, "5 7 8 9 10 11 12 13 14 15");
+    Bench.holds("up set", x, 1, "5 7 8 9 10 11 12 13 14 15");
     Check.due("minimal", 2, x.derive(1, SetFamilies.MINIMAL, 0));
-    holds("minimal", x, 1, "5 8");
+    Bench.holds("minimal", x, 1, "5 8");
     Check.due("maximal", 1, x.derive(1, SetFamilies.MAXIMAL, 0));
-    holds("maximal", x, 1, "13");
+    Bench.holds("maximal", x, 1, "13");
     Check.due("complements", 3, x.derive(1, SetFamilies.COMPLEMENTS, 0));
-    holds("complements", x, 1, "2 7 10");
+    Bench.holds("complements", x, 1, "2 7 10");
     Check.due("down set after the complements", 8, x.derive(2, SetFamilies.DOWN_SET, 0));
-    holds("down set after the complements", x, 2, "0 1 4 5 8 9 12 13");
-    read(x, 0, "0,012,3,0123");
+    Bench.holds("down set after the complements", x, 2, "0 1 4 5 8 9 12 13");
+    Bench.read(x, 0, "0,012,3,0123");
     x.derive(1, SetFamilies.MINIMAL, 0);
-    holds("minimal sets of a chain with a gap", x, 1, "1 8");
-    read(x, 0, "-,0,012,3");
+    Bench.holds("minimal sets of a chain with a gap", x, 1, "1 8");
+    Bench.read(x, 0, "-,0,012,3");
     x.derive(1, SetFamilies.MAXIMAL, 0);
-    holds("maximal sets of a chain with a gap", x, 1, "7 8");
-    SetFamilies y = with(8, "07,17,6");
+    Bench.holds("maximal sets of a chain with a gap", x, 1, "7 8");
+    SetFamilies y = Bench.with(8, "07,17,6");
     Check.due("unions", 7, y.derive(1, SetFamilies.UNIONS, 0));
-    holds("unions", y, 1, "64 129 130 131 193 194 195");
+    Bench.holds("unions", y, 1, "64 129 130 131 193 194 195");
     Check.due("intersections", 5, y.derive(1, SetFamilies.INTERSECTIONS, 0));
-    holds("intersections", y, 1, "0 64 128 129 130");
+    Bench.holds("intersections", y, 1, "0 64 128 129 130");
     for (int operation = SetFamilies.SHADOW; operation <= SetFamilies.INTERSECTIONS; operation++) {
       int want = operation == SetFamilies.BLOCKER ? 1 : 0;
       Check.due("derive(2, " + operation + ") of the empty family", want, y.derive(2, operation, 3));
     }
-    SetFamilies z = with(3, "-");
+    SetFamilies z = Bench.with(3, "-");
     Check.due("unions of the empty set alone", 1, z.derive(1, SetFamilies.UNIONS, 0));
     Check.due("intersections of the empty set alone", 1, z.derive(1, SetFamilies.INTERSECTIONS, 0));
-    read(z, 0, "01,12,02");
+    Bench.read(z, 0, "01,12,02");
     Check.due("intersections of three sets too", 7, z.derive(0, SetFamilies.INTERSECTIONS, 0));
-    holds("intersections of three sets too", z, 0, "0 1 2 3 4 5 6");
+    Bench.holds("intersections of three sets too", z, 0, "0 1 2 3 4 5 6");
   }
 
   private static void deriveBlockers() {
     Check.about("promise 10, blockers");
-    SetFamilies x = with(9, "01,12,02");
+    SetFamilies x = Bench.with(9, "01,12,02");
     Check.due("blocker of a triangle", 3, x.derive(1, SetFamilies.BLOCKER, 0));
-    holds("blocker of a triangle", x, 1, "3 5 6");
-    read(x, 0, "018,8,67");
+    Bench.holds("blocker of a triangle", x, 1, "3 5 6");
+    Bench.read(x, 0, "018,8,67");
     Check.due("blocker", 2, x.derive(0, SetFamilies.BLOCKER, 0));
-    holds("blocker", x, 0, "320 384");
+    Bench.holds("blocker", x, 0, "320 384");
     Check.due("blocker of nothing", 1, x.derive(2, SetFamilies.BLOCKER, 3));
-    holds("blocker of nothing", x, 2, "0");
+    Bench.holds("blocker of nothing", x, 2, "0");
     Check.due("blocker of the empty set", 0, x.derive(2, SetFamilies.BLOCKER, 2));
-    SetFamilies y = with(1, "0");
+    SetFamilies y = Bench.with(1, "0");
     Check.due("blocker of one element", 1, y.derive(0, SetFamilies.BLOCKER, 0));
-    holds("blocker of one element", y, 0, "1");
+    Bench.holds("blocker of one element", y, 0, "1");
   }
 
   private static void compress() {
     Check.about("promise 11");
-    SetFamilies x = with(8, "7,17,67,6,06,-");
+    SetFamilies x = Bench.with(8, "7,17,67,6,06,-");
     // 7 becomes 0, 17 becomes 01, 67 becomes 06, which is there already.
     Check.due("compress(0, 7, 0)", 2, x.compress(0, 7, 0));
-    holds("after it", x, 0, "0 1 3 64 65 192");
+    Bench.holds("after it", x, 0, "0 1 3 64 65 192");
     Check.due("compress(0, 7, 0) again", 0, x.compress(0, 7, 0));
     Check.due("compress upwards", 2, x.compress(0, 0, 7));
-    holds("after it", x, 0, "0 64 65 128 130 192");
+    Bench.holds("after it", x, 0, "0 64 65 128 130 192");
     Check.due("compress of nothing", 0, x.compress(1, 1, 0));
-    read(x, 1, "0,1");
+    Bench.read(x, 1, "0,1");
     Check.due("both are there", 0, x.compress(1, 1, 0));
     for (int e : new int[] {-1, 8, Integer.MIN_VALUE, Integer.MAX_VALUE}) {
       Check.throwsA(ARGUMENT, "j = " + e, () -> x.compress(0, e, 0));
@@ -374,17 +337,17 @@ public final class PromisesTest {
 
   private static void shift() {
     Check.about("promise 12");
-    SetFamilies x = with(7, "6");
+    SetFamilies x = Bench.with(7, "6");
     Check.due("shift(0)", 1, x.shift(0));
-    holds("after it", x, 0, "1");
+    Bench.holds("after it", x, 0, "1");
     Check.due("shift(0) again", 0, x.shift(0));
     // From 2 to 0: 24 becomes 04. From 4 to 0: nothing, 04 holds both. From 4 to 1: 04 becomes 01.
-    read(x, 0, "24");
+    Bench.read(x, 0, "24");
     Check.due("shift of 24", 2, x.shift(0));
-    holds("shift of 24", x, 0, "3");
-    read(x, 0, "-,0123456,56");
+    Bench.holds("shift of 24", x, 0, "3");
+    Bench.read(x, 0, "-,0123456,56");
     x.shift(0);
-    holds("sizes stay", x, 0, "0 3 127");
+    Bench.holds("sizes stay", x, 0, "0 3 127");
     Check.due("shift of nothing", 0, x.shift(3));
     x.setGround(1);
     x.add(0, 1);
@@ -396,16 +359,16 @@ public final class PromisesTest {
 
   private static void trace() {
     Check.about("promise 13");
-    SetFamilies x = with(9, "08,18,038,27");
+    SetFamilies x = Bench.with(9, "08,18,038,27");
     Check.due("trace(1, 0, 257)", 3, x.trace(1, 0, 257));
-    holds("trace on 08", x, 1, "0 256 257");
+    Bench.holds("trace on 08", x, 1, "0 256 257");
     Check.due("trace on nothing", 1, x.trace(1, 0, 0));
-    holds("trace on nothing", x, 1, "0");
+    Bench.holds("trace on nothing", x, 1, "0");
     Check.due("trace on all", 4, x.trace(1, 0, 511));
-    holds("trace on all", x, 1, "132 257 258 265");
+    Bench.holds("trace on all", x, 1, "132 257 258 265");
     Check.due("trace of nothing", 0, x.trace(1, 3, 511));
     Check.due("trace at its own place", 3, x.trace(0, 0, 136));
-    holds("trace at its own place", x, 0, "0 8 128");
+    Bench.holds("trace at its own place", x, 0, "0 8 128");
     for (int f : NO_FAMILIES) {
       Check.throwsA(INDEX, "place " + f, () -> x.trace(f, 0, 0));
       Check.throwsA(INDEX, "family " + f + ", set wrong too", () -> x.trace(0, f, 512));
@@ -416,9 +379,9 @@ public final class PromisesTest {
 
   private static void segment() {
     Check.about("promise 14");
-    SetFamilies x = with(6, "-");
+    SetFamilies x = Bench.with(6, "-");
     Check.due("segment(0, 3, 5)", 19, x.segment(0, 3, 5));
-    holds("segment(0, 3, 5)", x, 0, "7 11 13 14 19");
+    Bench.holds("segment(0, 3, 5)", x, 0, "7 11 13 14 19");
     Check.due("segment(0, 2, 0)", SetFamilies.NONE, x.segment(0, 2, 0));
     Check.due("its size", 0, x.size(0, SetFamilies.NONE));
     Check.due("segment(1, 0, 1)", 0, x.segment(1, 0, 1));
@@ -443,7 +406,7 @@ public final class PromisesTest {
 
   private static void rank() {
     Check.about("promise 15");
-    SetFamilies x = with(1, "");
+    SetFamilies x = Bench.with(1, "");
     Check.due("rank(0)", 0, x.rank(0));
     Check.due("rank(1)", 0, x.rank(1));
     Check.due("rank(512), n does not matter", 9, x.rank(512));
@@ -452,7 +415,7 @@ public final class PromisesTest {
     Check.due("rank(1023)", 0, x.rank(1023));
     int[] before = new int[11];
     for (int s = 0; s < 1024; s++) {
-      Check.due("rank(" + s + ")", before[Integer.bitCount(s)]++, x.rank(s));
+      Check.due("rank(" + s + ")", before[Integer.bitCount(s)]++, new SetFamilies().rank(s));
     }
     for (int s : new int[] {-1, 1024, Integer.MIN_VALUE, Integer.MAX_VALUE}) {
       Check.throwsA(ARGUMENT, "rank(" + s + ")", () -> x.rank(s));
@@ -461,11 +424,11 @@ public final class PromisesTest {
 
   private static void unrank() {
     Check.about("promise 16");
-    SetFamilies x = with(1, "");
+    SetFamilies x = Bench.with(1, "");
     int[] next = new int[11];
     for (int s = 0; s < 1024; s++) {
       int k = Integer.bitCount(s);
-      Check.due("unrank(" + k + ", " + next[k] + ")", s, x.unrank(k, next[k]++));
+      Check.due("unrank(" + k + ", " + next[k] + ")", s, new SetFamilies().unrank(k, next[k]++));
     }
     for (int k = 0; k <= 10; k++) {
       Check.due("unrank(" + k + ", " + next[k] + ")", SetFamilies.NONE, x.unrank(k, next[k]));
@@ -532,7 +495,7 @@ public final class PromisesTest {
 
   private static void excess() {
     Check.about("promise 19");
-    SetFamilies x = with(6, "012,345,0,5,0123,-");
+    SetFamilies x = Bench.with(6, "012,345,0,5,0123,-");
     Check.due("excess(0, 3)", 1, x.excess(0, 3));
     Check.due("excess(0, 1)", 0, x.excess(0, 1));
     Check.due("excess(0, 2), an empty level", 0, x.excess(0, 2));
@@ -544,7 +507,7 @@ public final class PromisesTest {
     for (int f : NO_FAMILIES) {
       Check.throwsA(INDEX, "excess(" + f + ", 0)", () -> x.excess(f, 0));
     }
-    SetFamilies y = with(10, "01,23,45,67,89");
+    SetFamilies y = Bench.with(10, "01,23,45,67,89");
     // Five pairs at the front have four elements.
     Check.due("excess of five disjoint pairs", 6, y.excess(0, 2));
     for (int k = 1; k <= 10; k++) {
@@ -554,7 +517,7 @@ public final class PromisesTest {
   }
 
   private static void is(int property, String text, boolean want) {
-    Check.due("property " + property + " of '" + text + "'", bit(want), bit(with(8, text).is(0, property)));
+    Check.due("property " + property + " of '" + text + "'", Bench.bit(want), Bench.bit(Bench.with(8, text).is(0, property)));
   }
 
   private static void properties() {
@@ -596,15 +559,15 @@ public final class PromisesTest {
     is(5, "-,01234567", true);
     SetFamilies x = new SetFamilies();
     for (int property : new int[] {-1, 6, Integer.MIN_VALUE, Integer.MAX_VALUE}) {
-      Check.throwsA(ARGUMENT, "is(0, " + property + ")", () -> bit(x.is(0, property)));
+      Check.throwsA(ARGUMENT, "is(0, " + property + ")", () -> Bench.bit(x.is(0, property)));
     }
     for (int f : NO_FAMILIES) {
-      Check.throwsA(INDEX, "is(" + f + ", 6)", () -> bit(x.is(f, 6)));
+      Check.throwsA(INDEX, "is(" + f + ", 6)", () -> Bench.bit(x.is(f, 6)));
     }
   }
 
   private static void weightIs(int n, String text, long numerator, long denominator) {
-    SetFamilies x = with(n, text);
+    SetFamilies x = Bench.with(n, text);
     Check.due("numerator of '" + text + "' with n = " + n, numerator, x.weight(0, false));
     Check.due("denominator of '" + text + "' with n = " + n, denominator, x.weight(0, true));
   }
@@ -621,7 +584,7 @@ public final class PromisesTest {
     weightIs(8, "0,01,012,0123", 27, 140);
     weightIs(9, "0,01,012,0123", 10, 63);
     weightIs(10, "0,01,012,0123,01234", 39, 280);
-    SetFamilies x = with(10, "-");
+    SetFamilies x = Bench.with(10, "-");
     x.derive(1, SetFamilies.UP_SET, 0);
     Check.due("numerator of all sets", 11, x.weight(1, false));
     Check.due("denominator of all sets", 1, x.weight(1, true));
@@ -638,9 +601,9 @@ public final class PromisesTest {
   private static void dimension() {
     Check.about("promise 22");
     for (int i = 0; i < SHATTERING.length; i++) {
-      Check.due("dimension of '" + SHATTERING[i] + "'", DIMENSIONS[i], with(10, SHATTERING[i]).dimension(0));
+      Check.due("dimension of '" + SHATTERING[i] + "'", DIMENSIONS[i], Bench.with(10, SHATTERING[i]).dimension(0));
     }
-    SetFamilies x = with(10, "-");
+    SetFamilies x = Bench.with(10, "-");
     x.derive(0, SetFamilies.UP_SET, 0);
     Check.due("dimension of all sets", 10, x.dimension(0));
     x.remove(0, 700);
@@ -653,9 +616,9 @@ public final class PromisesTest {
   private static void shattered() {
     Check.about("promise 23");
     for (int i = 0; i < SHATTERING.length; i++) {
-      Check.due("shattered of '" + SHATTERING[i] + "'", SHATTERED[i], with(10, SHATTERING[i]).shattered(0));
+      Check.due("shattered of '" + SHATTERING[i] + "'", SHATTERED[i], Bench.with(10, SHATTERING[i]).shattered(0));
     }
-    SetFamilies x = with(10, "-");
+    SetFamilies x = Bench.with(10, "-");
     x.derive(0, SetFamilies.UP_SET, 0);
     Check.due("shattered of all sets", 1023, x.shattered(0));
     x.remove(0, 700);
@@ -667,21 +630,21 @@ public final class PromisesTest {
 
   private static void crossing() {
     Check.about("promise 24");
-    SetFamilies x = with(10, "01,2");
-    read(x, 1, "0,12");
+    SetFamilies x = Bench.with(10, "01,2");
+    Bench.read(x, 1, "0,12");
     Check.due("crossing(0, 1)", 1024 * 4 + 1, x.crossing(0, 1));
     Check.due("crossing(1, 0)", 1024 * 1 + 4, x.crossing(1, 0));
     Check.due("crossing(0, 0)", 1024 * 3 + 4, x.crossing(0, 0));
     Check.due("crossing with nothing", SetFamilies.NONE, x.crossing(0, 3));
     Check.due("crossing of nothing", SetFamilies.NONE, x.crossing(3, 0));
     Check.due("crossing of nothing with itself", SetFamilies.NONE, x.crossing(3, 3));
-    read(x, 2, "02,12,012");
+    Bench.read(x, 2, "02,12,012");
     Check.due("cross-intersecting", SetFamilies.NONE, x.crossing(0, 2));
-    read(x, 2, "-");
+    Bench.read(x, 2, "-");
     Check.due("crossing with the empty set", 1024 * 3, x.crossing(0, 2));
     Check.due("crossing of the empty set", 3, x.crossing(2, 0));
     Check.due("crossing of the empty set with itself", 0, x.crossing(2, 2));
-    read(x, 2, "0123456789,9,8");
+    Bench.read(x, 2, "0123456789,9,8");
     Check.due("the last elements", 1024 * 256 + 512, x.crossing(2, 2));
     for (int f : NO_FAMILIES) {
       Check.throwsA(INDEX, "crossing(" + f + ", 0)", () -> x.crossing(f, 0));
@@ -690,7 +653,7 @@ public final class PromisesTest {
   }
 
   private static void sunflowerIs(String text, int core) {
-    Check.due("sunflower of '" + text + "'", core, with(10, text).sunflower(0));
+    Check.due("sunflower of '" + text + "'", core, Bench.with(10, text).sunflower(0));
   }
 
   private static void sunflower() {
@@ -719,7 +682,7 @@ public final class PromisesTest {
 
   private static void pairs() {
     Check.about("promise 26");
-    SetFamilies x = with(8, "06,16,01,7,-");
+    SetFamilies x = Bench.with(8, "06,16,01,7,-");
     int[] counts = {7, 3, 0, 0, 0, 0, 0, 0, 0};
     for (int c = 0; c <= 8; c++) {
       Check.due("pairs(0, " + c + ")", counts[c], x.pairs(0, c));
@@ -731,7 +694,7 @@ public final class PromisesTest {
     for (int f : NO_FAMILIES) {
       Check.throwsA(INDEX, "pairs(" + f + ", -1)", () -> x.pairs(f, -1));
     }
-    SetFamilies y = with(10, "-");
+    SetFamilies y = Bench.with(10, "-");
     y.derive(0, SetFamilies.UP_SET, 0);
     // (10 over c) ways for what is common and three for each other element, without equal sets.
     int[] all = {29524, 98410, 147600, 131160, 76440, 30492, 8400, 1560, 180, 10, 0};
@@ -760,7 +723,7 @@ public final class PromisesTest {
     Check.about("promise 28");
     SetFamilies x = new SetFamilies();
     Check.due("clearText() of nothing", 0, x.clearText());
-    type(x, "01,");
+    Bench.type(x, "01,");
     Check.due("clearText()", 3, x.clearText());
     Check.due("clearText() again", 0, x.clearText());
     Check.throwsA(STATE, "it is not undoable", () -> x.undo());
@@ -770,7 +733,7 @@ public final class PromisesTest {
   private static void readIs(int n, String text, int want) {
     SetFamilies x = new SetFamilies();
     x.setGround(n);
-    Check.due("read of '" + text + "' with n = " + n, want, read(x, 0, text));
+    Check.due("read of '" + text + "' with n = " + n, want, Bench.read(x, 0, text));
   }
 
   private static void read() {
@@ -803,15 +766,15 @@ public final class PromisesTest {
     readIs(1, "1", -10);
     readIs(6, "0,".repeat(60), -130);
     readIs(6, "0,".repeat(59) + "01", 2);
-    SetFamilies x = with(6, "02,-");
-    holds("a family that was read", x, 0, "0 5");
+    SetFamilies x = Bench.with(6, "02,-");
+    Bench.holds("a family that was read", x, 0, "0 5");
     Check.due("the text is still there", 2, x.read(3));
     x.type(',');
     Check.due("a text with a fault", -15, x.read(0));
-    holds("nothing changes", x, 0, "0 5");
+    Bench.holds("nothing changes", x, 0, "0 5");
     x.clearText();
     Check.due("the empty text", 0, x.read(0));
-    holds("it replaces the family", x, 0, "");
+    Bench.holds("it replaces the family", x, 0, "");
     for (int f : NO_FAMILIES) {
       Check.throwsA(INDEX, "read(" + f + ")", () -> x.read(f));
     }
@@ -826,13 +789,13 @@ public final class PromisesTest {
     for (int s = 0; s < 6; s++) {
       x.add(0, s);
     }
-    type(x, "-");
+    Bench.type(x, "-");
     for (int left = 3; left >= 0; left--) {
       Check.due("undo()", left, x.undo());
       Check.due("size after it", left + 2, x.size(0, SetFamilies.NONE));
     }
     Check.throwsA(STATE, "the fifth undo()", () -> x.undo());
-    holds("what is left", x, 0, "0 1");
+    Bench.holds("what is left", x, 0, "0 1");
     Check.due("the text is not restored", 1, x.clearText());
     x.setGround(3);
     x.add(1, 7);
@@ -840,11 +803,11 @@ public final class PromisesTest {
     x.add(2, 1023);
     Check.due("undo()", 3, x.undo());
     Check.due("undo() of setGround(10)", 2, x.undo());
-    holds("family 1 is back", x, 1, "7");
-    Check.throwsA(ARGUMENT, "n is 3 again", () -> bit(x.has(2, 8)));
+    Bench.holds("family 1 is back", x, 1, "7");
+    Check.throwsA(ARGUMENT, "n is 3 again", () -> Bench.bit(x.has(2, 8)));
     Check.due("undo()", 1, x.undo());
     Check.due("undo() of setGround(3)", 0, x.undo());
-    holds("family 0 is back", x, 0, "0 1");
+    Bench.holds("family 0 is back", x, 0, "0 1");
     Check.no("n is 6 again", x.has(2, 63));
   }
 
@@ -853,8 +816,8 @@ public final class PromisesTest {
     Check.Call[] calls = new Check.Call[11];
     SetFamilies[] now = new SetFamilies[1];
     calls[0] = () -> now[0].setGround(6);
-    calls[1] = () -> bit(now[0].add(0, 5));
-    calls[2] = () -> bit(now[0].remove(0, 1));
+    calls[1] = () -> Bench.bit(now[0].add(0, 5));
+    calls[2] = () -> Bench.bit(now[0].remove(0, 1));
     calls[3] = () -> now[0].combine(0, 0, 0, 0);
     calls[4] = () -> now[0].derive(0, SetFamilies.DOWN_SET, 0);
     calls[5] = () -> now[0].compress(0, 1, 0);
@@ -867,105 +830,66 @@ public final class PromisesTest {
       now[0] = new SetFamilies();
       SetFamilies x = now[0];
       x.add(0, 5);
-      type(x, "23,4");
+      Bench.type(x, "23,4");
       calls[i].answer();
       Check.due("states after call " + i + ", one undone", 1, x.undo());
-      holds("family 0 after call " + i, x, 0, "5");
-      holds("family 1 after call " + i, x, 1, "");
+      Bench.holds("family 0 after call " + i, x, 0, "5");
+      Bench.holds("family 1 after call " + i, x, 1, "");
       Check.due("the first state", 0, x.undo());
-      holds("family 0 at first", x, 0, "");
+      Bench.holds("family 0 at first", x, 0, "");
     }
-    SetFamilies x = with(6, "01,23");
+    SetFamilies x = Bench.with(6, "01,23");
     x.undo();
     x.undo();
     x.type(',');
     Check.due("read with a fault", -16, x.read(0));
     long answers = x.clearText() + x.size(0, 1) + x.get(0, 0) + x.degree(0, 0) + x.rank(5) + x.unrank(2, 2)
-        + x.cascade(5, 3, 0) + x.shadowBound(5, 3) + x.excess(0, 1) + bit(x.is(0, 0)) + x.weight(0, true) + x.dimension(0)
-        + x.shattered(0) + x.crossing(0, 0) + x.sunflower(0) + x.pairs(0, 0) + x.digest() + bit(x.has(0, 0));
+        + x.cascade(5, 3, 0) + x.shadowBound(5, 3) + x.excess(0, 1) + Bench.bit(x.is(0, 0)) + x.weight(0, true) + x.dimension(0)
+        + x.shattered(0) + x.crossing(0, 0) + x.sunflower(0) + x.pairs(0, 0) + x.digest() + Bench.bit(x.has(0, 0));
     Check.throwsA(STATE, "undo() when only such calls were made (" + answers + ")", () -> x.undo());
-  }
-
-  private static long mixed(long h, long... values) {
-    long out = h;
-    for (long v : values) {
-      out = 31 * out + v;
-    }
-    return out;
-  }
-
-  /** The hash as the document tells it, from the other answers. */
-  private static long hash(SetFamilies x, int states, int length, int n) {
-    long h = mixed(18454, states, length, n);
-    for (int f = 0; f < 4; f++) {
-      int size = x.size(f, SetFamilies.NONE);
-      h = mixed(h, size);
-      for (int i = 0; i < size; i++) {
-        h = mixed(h, x.get(f, i));
-      }
-      for (int e = 0; e < n; e++) {
-        h = mixed(h, x.degree(f, e));
-      }
-      for (int property = 0; property <= 5; property++) {
-        h = mixed(h, bit(x.is(f, property)));
-      }
-      h = mixed(h, x.weight(f, false), x.weight(f, true), x.dimension(f), x.shattered(f), x.sunflower(f));
-      for (int c = 0; c <= n; c++) {
-        h = mixed(h, x.pairs(f, c));
-      }
-      for (int level = 1; level <= n; level++) {
-        h = mixed(h, x.excess(f, level));
-      }
-    }
-    for (int f = 0; f < 4; f++) {
-      for (int g = 0; g < 4; g++) {
-        h = mixed(h, x.crossing(f, g));
-      }
-    }
-    return h;
   }
 
   private static void digest() {
     Check.about("promise 31");
     SetFamilies x = new SetFamilies();
-    Check.due("digest() at first", hash(x, 0, 0, 6), x.digest());
-    type(x, "01,12,345");
-    Check.due("digest() with a text", hash(x, 0, 9, 6), x.digest());
+    Check.due("digest() at first", Bench.hash(x, 0, 0, 6), x.digest());
+    Bench.type(x, "01,12,345");
+    Check.due("digest() with a text", Bench.hash(x, 0, 9, 6), x.digest());
     x.read(2);
-    Check.due("digest() after read", hash(x, 1, 9, 6), x.digest());
+    Check.due("digest() after read", Bench.hash(x, 1, 9, 6), x.digest());
     x.derive(1, SetFamilies.BLOCKER, 2);
     x.derive(3, SetFamilies.UPPER_SHADOW, 2);
     x.add(0, 0);
     x.add(0, 17);
     x.clearText();
-    Check.due("digest() with four families", hash(x, 4, 0, 6), x.digest());
+    Check.due("digest() with four families", Bench.hash(x, 4, 0, 6), x.digest());
     x.undo();
-    Check.due("digest() after undo", hash(x, 3, 0, 6), x.digest());
+    Check.due("digest() after undo", Bench.hash(x, 3, 0, 6), x.digest());
     x.setGround(10);
     x.segment(0, 5, 200);
     x.derive(1, SetFamilies.SHADOW, 0);
     x.add(2, 1023);
     x.derive(2, SetFamilies.DOWN_SET, 2);
-    Check.due("digest() with ten elements", hash(x, 4, 0, 10), x.digest());
+    Check.due("digest() with ten elements", Bench.hash(x, 4, 0, 10), x.digest());
     x.setGround(1);
     x.add(3, 1);
-    Check.due("digest() with one element", hash(x, 4, 0, 1), x.digest());
+    Check.due("digest() with one element", Bench.hash(x, 4, 0, 1), x.digest());
   }
 
   private static void throwingChangesNothing() {
     Check.about("a call that throws changes nothing");
-    SetFamilies x = with(6, "01,2,345");
+    SetFamilies x = Bench.with(6, "01,2,345");
     for (int i = 0; i < 112; i++) {
       x.type(i % 2 == 0 ? ',' : '0');
     }
     long before = x.digest();
     Check.Call[] calls = {
-      () -> x.setGround(0), () -> bit(x.add(0, 64)), () -> bit(x.add(4, 0)), () -> bit(x.remove(0, -1)),
-      () -> bit(x.remove(-1, 3)), () -> bit(x.has(0, 64)), () -> x.size(0, 7), () -> x.get(0, -1), () -> x.degree(0, 6),
+      () -> x.setGround(0), () -> Bench.bit(x.add(0, 64)), () -> Bench.bit(x.add(4, 0)), () -> Bench.bit(x.remove(0, -1)),
+      () -> Bench.bit(x.remove(-1, 3)), () -> Bench.bit(x.has(0, 64)), () -> x.size(0, 7), () -> x.get(0, -1), () -> x.degree(0, 6),
       () -> x.combine(0, 4, 1, 1), () -> x.combine(0, 0, 1, 4), () -> x.derive(0, 10, 0), () -> x.derive(0, 0, 4),
       () -> x.compress(0, 1, 1), () -> x.compress(0, 6, 1), () -> x.shift(4), () -> x.trace(0, 0, 64),
       () -> x.segment(0, 7, 0), () -> x.segment(0, 3, 21), () -> x.rank(1024), () -> x.unrank(11, 0),
-      () -> x.cascade(0, 1, 0), () -> x.shadowBound(-1, 1), () -> x.excess(0, 0), () -> bit(x.is(0, 6)),
+      () -> x.cascade(0, 1, 0), () -> x.shadowBound(-1, 1), () -> x.excess(0, 0), () -> Bench.bit(x.is(0, 6)),
       () -> x.weight(4, true), () -> x.dimension(4), () -> x.shattered(4), () -> x.crossing(0, 4), () -> x.sunflower(4),
       () -> x.pairs(0, 7), () -> x.type(128), () -> x.type('0'), () -> x.read(4),
     };
