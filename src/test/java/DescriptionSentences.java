@@ -598,6 +598,15 @@ final class DescriptionSentences {
     return x;
   }
 
+  /** Six calls, of which four are undone: the stack is empty, the families are not. */
+  private static SetFamilies allUndone() {
+    SetFamilies x = Bench.busy(6);
+    for (int i = 0; i < 4; i++) {
+      x.undo();
+    }
+    return x;
+  }
+
   private static void exceptions() {
     Document.says("A call that throws an exception changes nothing.", () -> {
       for (Bench.Maker maker : new Bench.Maker[] {SetFamilies::new, DescriptionSentences::fullText, () -> Bench.busy(6)}) {
@@ -609,6 +618,7 @@ final class DescriptionSentences {
       }
       Bench.refused(Bench.STATE, DescriptionSentences::fullText, "type('0') of a full text", x -> x.type('0'));
       Bench.refused(Bench.STATE, SetFamilies::new, "undo() at first", SetFamilies::undo);
+      Bench.refused(Bench.STATE, DescriptionSentences::allUndone, "undo() with sets that no state is older than", SetFamilies::undo);
     });
     Document.says("If several exceptions of a method apply, the one that is listed first is thrown.", () -> {
       for (int f : Bench.NO_FAMILIES) {

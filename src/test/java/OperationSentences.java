@@ -98,7 +98,7 @@ final class OperationSentences {
     Document.says("Undoable.", () -> {
       for (int operation = SHADOW; operation <= INTERSECTIONS; operation++) {
         int now = operation;
-        Bench.undoable(() -> Bench.with(10, "07,8", "-"), "operation " + now, true, x -> x.derive(1, now, 0));
+        Bench.undoable(() -> Bench.with(8, "07,6", "-"), "operation " + now, true, x -> x.derive(1, now, 0));
       }
       Bench.undoable(() -> Bench.with(3, "01"), "the minimal sets of an antichain", false, x -> x.derive(0, SetFamilies.MINIMAL, 0));
       Bench.undoable(SetFamilies::new, "a shadow of no sets", false, x -> x.derive(3, SHADOW, 0));

@@ -228,7 +228,9 @@ final class PropertySentences {
       sunflowerIs(2, "-,0,1", 0);
       sunflowerIs(2, "-,0,01", NONE);
       sunflowerIs(3, "01,12,02", NONE);
+      // The two chains lead the search to the greatest cores.
       sunflowerIs(10, "0123456789,012345678,01234567", NONE);
+      sunflowerIs(10, "0123456789,123456789,23456789", NONE);
     });
     Document.says("Throws `IndexOutOfBoundsException` if there is no such family", () -> Bench.refusedFamilies((x, f) -> x.sunflower(f)));
   }
